@@ -359,16 +359,16 @@ public final class SpanWidths {
         if (upper <= 0 || lower <= 0) return 0;
         long scaled = upper;
         int shift = 0;
-        while (shift < 62 && scaled < (long) lower << precision - 1) {
+        while (shift < 62 && scaled < ((long) lower << (precision - 1))) {
             scaled *= 2;
             shift++;
         }
         long digits = scaled / lower;
         long twiceRest = 2 * (scaled % lower);
-        if (twiceRest > lower || twiceRest == lower && digits % 2 != 0) digits++;
+        if (twiceRest > lower || (twiceRest == lower && digits % 2 != 0)) digits++;
         // the leading digit, which isn't kept, counts as 1 more of the exponent, as does a carry
         long exponent = bias + precision - 1 - shift - 1;
-        return (exponent << precision - 1) + digits;
+        return (exponent << (precision - 1)) + digits;
     }
 
     // ---- texts
@@ -550,7 +550,7 @@ public final class SpanWidths {
         }
 
         int columnsUnder(int c) {
-            return (1 << span[c]) - 1 << first[c];
+            return ((1 << span[c]) - 1) << first[c];
         }
 
         int cellsOver(int q) {

@@ -29,6 +29,7 @@ public final class SharesTest {
         z.promise(0, 9);
         D.due("fits in none", z.firstFit(1), -9);
         SpanWidths six = Due.of("t6;d0109;d1109;d2109;d3109;d4109;d5109");
+        D.due("the very last of 99", Due.of("t6;d0109;d1109;d2109;d3109;d4109;p5109").firstFit(5), 99);
         D.due("99 are too few for 108: the third has 17 of 18", six.firstFit(2), -9);
     }
 

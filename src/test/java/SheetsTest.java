@@ -35,7 +35,10 @@ public final class SheetsTest {
         }
         D.due("the last cell", x.cell(3, 59, 2), 0);
         x.put(3, 0, 7);
-        for (int k : new int[] {-1, 4, MIN, MAX}) fails(x, "sheet(" + k + ", 3, 61)", x.sheet(k, 3, 61), -1, 0);
+        for (int k : new int[] {-1, 4, MIN, MAX}) {
+            x.put(3, -1, 0);
+            fails(x, "sheet(" + k + ", 3, 61)", x.sheet(k, 3, 61), -1, 0);
+        }
         for (int lane : new int[] {-1, 3, MIN, MAX}) fails(x, "sheet(3, " + lane + ", -1)", x.sheet(3, lane, -1), -2, 0);
         for (int n : new int[] {61, MAX}) fails(x, "sheet(3, 0, " + n + ")", x.sheet(3, 0, n), -2, 0);
         for (int n : new int[] {-1, MIN}) fails(x, "sheet(3, 0, " + n + ")", x.sheet(3, 0, n), -14, 4);
@@ -89,7 +92,10 @@ public final class SheetsTest {
     private static void cells() {
         SpanWidths x = new SpanWidths();
         Due.write(x, 1, Due.SHORTS, -5, 6);
-        for (int k : new int[] {-1, 4, MIN, MAX}) fails(x, "cell(" + k + ", -1, 3)", x.cell(k, -1, 3), LOST, 0);
+        for (int k : new int[] {-1, 4, MIN, MAX}) {
+            fails(x, "cell(" + k + ", -1, 3)", x.cell(k, -1, 3), LOST, 0);
+            fails(x, "cell(" + k + ", 0, 1)", x.cell(k, 0, 1), LOST, 0);
+        }
         for (int lane : new int[] {-1, 3, MIN, MAX}) {
             x.put(0, 0, 0);
             fails(x, "cell(1, -1, " + lane + ")", x.cell(1, -1, lane), LOST, 0);
@@ -130,6 +136,7 @@ public final class SheetsTest {
         Due.write(x, 1, Due.BYTES, 4, 5);
         Due.write(x, 2, Due.INTS, 6, 7);
         for (int k : new int[] {-1, 4, MIN, MAX}) {
+            x.put(3, 0, 0);
             fails(x, "copy(" + k + ", ..)", x.copy(k, -1, 3, 0, 0), -1, 0);
             fails(x, "copy(.., " + k + ")", x.copy(3, -1, k, 0, 0), -1, 0);
         }

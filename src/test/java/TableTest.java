@@ -117,6 +117,7 @@ public final class TableTest {
         x.promise(1, 4);
         x.manner(2);
         x.reading(5, 0, 3);
+        x.kinds(0);
         int told = x.tell(0);
         int trace = x.trace();
         D.due("wrong text", Due.tell(x, "t3;p"), -104);
@@ -136,6 +137,8 @@ public final class TableTest {
         D.due("trace stays", x.trace(), trace);
         D.due("sheets stay", x.cell(3, 0, 0), 't');
         D.due("of a column gone", x.ofColumn(2, 0), -1);
+        D.due("cells gone aren't over it", x.ofColumn(0, 3), 1);
+        D.due("cells gone aren't cramped", x.whole(0, 2), 1);
     }
 
     private static void cells() {
@@ -188,6 +191,7 @@ public final class TableTest {
             D.due("ofColumn(" + q + ", 4)", x.ofColumn(q, 4), -1);
         }
         D.due("no cell over it", Due.of("t2;p0100").ofColumn(1, 3), 0);
+        D.due("nine over it", Due.of("t3" + ";p1209".repeat(9)).ofColumn(2, 3), 511);
     }
 
     private static void contents() {

@@ -102,6 +102,7 @@ public final class WidthsTest {
         wholeIs(x, 20, 20, 0, 11, 0, 2);
         SpanWidths y = Due.of("t6;d0199;d1199;d2199;d3199;d4199;d5199");
         wholeIs(y, 99, 108, 1, 0, 0, 0);
+        wholeIs(Due.of("t3" + ";p1209".repeat(9)), 8, 8, 0, 511, 0, 1);
         SpanWidths z = Due.of("t2;p1111");
         wholeIs(z, 1, 1, 0, 0, 0, 1);
         wholeIs(z, 2, 2, 0, 0, 0, 0);
@@ -200,6 +201,7 @@ public final class WidthsTest {
         dayFails(none, 0, 1, 0, 1, 0, 0, -3, 0);
         dayFails(none, 0, 1, 2, 0, 0, 1, -3, 0);
         dayFails(x, 0, 1, 0, 1, 0, 0, -2, 0);
+        D.due("of SHEET 3", x.day(3, 0, 0, 0, 0, 0), 7);
     }
 
     private static void dayFails(SpanWidths x, int sheet, int lane, int i, int k, int n, int what, int want, int fault) {

@@ -1,7 +1,9 @@
 /** Counts answers that are not as due, and has the few steps that most tests begin with. */
 final class Due {
     static final int BYTES = 0, SHORTS = 1, INTS = 2;
+    static final int MIN = Integer.MIN_VALUE, MAX = Integer.MAX_VALUE;
     private final String test;
+    private String sentence = "";
     private int asked = 0;
     private int wrong = 0;
 
@@ -9,11 +11,22 @@ final class Due {
         this.test = test;
     }
 
+    /** The words of the document by which the answers from here on are due. */
+    void by(String words) {
+        sentence = " by \"" + words + "\"";
+    }
+
     void due(String call, long got, long want) {
         asked++;
         if (got == want) return;
         wrong++;
-        System.out.println(test + ": " + call + " answered " + got + ", due is " + want);
+        System.out.println(test + ": " + call + " answered " + got + ", due is " + want + sentence);
+    }
+
+    /** An answer, and what fault() tells after it. */
+    void due(SpanWidths x, String call, long got, long want, int fault) {
+        due(call, got, want);
+        due(call + ", fault()", x.fault(), fault);
     }
 
     void dueRow(String call, int[] got, int... want) {
@@ -24,6 +37,11 @@ final class Due {
     void end() {
         System.out.println(test + ": " + asked + " answers, " + wrong + " not as due");
         if (wrong != 0 || asked == 0) System.exit(1);
+    }
+
+    /** Numbers that are not least .. most: the nearest on both sides, and the farthest. */
+    static int[] not(int least, int most) {
+        return new int[] {least - 1, most + 1, MIN, MAX};
     }
 
     /** Gives a sheet a row of ints. */

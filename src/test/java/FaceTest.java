@@ -1,6 +1,7 @@
 import com.sun.management.ThreadMXBean;
 import java.io.IOException;
 import java.lang.management.ManagementFactory;
+import java.lang.reflect.Array;
 import java.lang.reflect.Constructor;
 import java.lang.reflect.Field;
 import java.lang.reflect.Method;
@@ -27,12 +28,15 @@ public final class FaceTest {
         "int trace()", "int fault()", "int many(int)"};
     private static final String[] CONSTANTS = {"int UNKNOWN", "int OUTSIDE", "int STATE", "int FULL", "int NONE", "long LOST"};
 
-    public static void main(String[] args) throws IOException {
+    public static void main(String[] args) throws IOException, IllegalAccessException {
         constants();
         methods();
         members();
         classesInside();
         source();
+        library();
+        methodsAreShort();
+        roomOfOne();
         callsMakeNothing();
         D.end();
     }
@@ -97,12 +101,26 @@ public final class FaceTest {
             int modifiers = c.getModifiers();
             holds(c.getName() + " is static", Modifier.isStatic(modifiers));
             holds(c.getName() + " is not public", !Modifier.isPublic(modifiers) && !Modifier.isProtected(modifiers));
+            int own = 0;
+            for (Field f : c.getDeclaredFields()) {
+                if (!Modifier.isStatic(f.getModifiers())) own++;
+                else holds(f.getName() + " is a constant", Modifier.isFinal(f.getModifiers()) && f.getType() == int.class);
+            }
+            holds(c.getName() + " has some twenty fields", own <= 20);
         }
     }
 
+    private static String text() throws IOException {
+        return Files.readString(Path.of("src/main/java/SpanWidths.java"));
+    }
+
+    private static String code() throws IOException {
+        return text().replaceAll("(?s)/\\*.*?\\*/", " ").replaceAll("//[^\n]*", " ");
+    }
+
     private static void source() throws IOException {
-        String text = Files.readString(Path.of("src/main/java/SpanWidths.java"));
-        String code = text.replaceAll("(?s)/\\*.*?\\*/", " ").replaceAll("//[^\n]*", " ");
+        String text = text();
+        String code = code();
         String[] never = {"\\b(throw|throws|try|catch|synchronized|assert|package|default\\s+\\w+\\()\\b", "->", "::", "Exact\\(",
             "\\bstatic\\s*\\{", "\\b(Float|Double|Character|Byte|Short|Object|Thread|Random)\\b", "\\bgoto\\b", "\\bvar\\b"};
         for (String word : never) {
@@ -112,6 +130,52 @@ public final class FaceTest {
         Matcher m = Pattern.compile("import\\s+([^;]*);").matcher(code);
         while (m.find()) holds("import " + m.group(1), m.group(1).equals("java.util.Arrays"));
         holds("signs 1 to 127", text.chars().allMatch(sign -> sign > 0 && sign < 128));
+    }
+
+    private static void library() throws IOException {
+        Set<String> used = new TreeSet<>();
+        Matcher m = Pattern.compile("\\b[A-Z]\\w*[a-z]\\w*\\.\\w+\\(").matcher(code());
+        while (m.find()) used.add(m.group());
+        dueSets("calls of the library", used, Set.of("Arrays.fill(", "Math.min(", "System.arraycopy("));
+    }
+
+    private static void methodsAreShort() throws IOException {
+        String[] lines = text().split("\n");
+        int methods = 0;
+        for (int k = 0; k < lines.length; k++) {
+            Matcher m = Pattern.compile("(    |        )(?!if|for|while|switch)[a-z].*\\) \\{").matcher(lines[k]);
+            if (!m.matches()) continue;
+            int end = k;
+            while (end < lines.length - 1 && !lines[end].equals(m.group(1) + "}")) end++;
+            methods++;
+            holds("short: " + lines[k], end - k < 60);
+        }
+        holds("methods were seen", methods >= FACE.length);
+    }
+
+    /** What stands in the room for each object: [0] objects and arrays, [1] their fields and elements. */
+    private static void count(Object one, int[] found) throws IllegalAccessException {
+        found[0]++;
+        if (one.getClass().isArray()) {
+            found[1] += Array.getLength(one);
+            if (!(one instanceof Object[] parts)) return;
+            for (Object part : parts) if (part != null) count(part, found);
+            return;
+        }
+        for (Field f : one.getClass().getDeclaredFields()) {
+            if (Modifier.isStatic(f.getModifiers())) continue;
+            found[1]++;
+            f.setAccessible(true);
+            Object part = f.get(one);
+            if (!f.getType().isPrimitive() && part != null) count(part, found);
+        }
+    }
+
+    private static void roomOfOne() throws IllegalAccessException {
+        int[] found = new int[2];
+        count(new SpanWidths(), found);
+        holds("a new object is " + found[0] + " objects and arrays", found[0] <= 40);
+        holds("with " + found[1] + " fields and elements", found[1] <= 600);
     }
 
     /** All calls of a run live in one room, so nothing may be made by a call: rows stand from the beginning. */
